@@ -180,14 +180,14 @@ public final class HingeFrames {
         if (!isCase(c) || !isPart(what)) {
             return NONE;
         }
-        return limitOf(c).tell(what);
+        return limitOf(wholeFalls(), c).tell(what);
     }
 
     public long fall(int c, int e) {
         if (!isCase(c) || !history.now().hasEnd(e)) {
             return NO_TURN;
         }
-        Limit limit = limitOf(c);
+        Limit limit = limitOf(wholeFalls(), c);
         return limit.fall == NONE ? NO_TURN : limit.sign * whole.turnOfEnd(limit.fall, e);
     }
 
@@ -195,7 +195,7 @@ public final class HingeFrames {
         if (!isCase(c)) {
             return NONE;
         }
-        Limit limit = limitOf(c);
+        Limit limit = limitOf(wholeFalls(), c);
         if (limit.fall == NONE) {
             return NONE;
         }
@@ -207,8 +207,9 @@ public final class HingeFrames {
         if (!isCase(c) || !now.hasBar(b) || !isPart(what)) {
             return NONE;
         }
-        other.takeStrengths(wholeShape(), now, b);
-        other.seekCase(wholeFalls(), now, c);
+        Falls all = wholeFalls();
+        other.takeStrengths(all.shape, now, b);
+        other.seekCase(all, now, c);
         return other.tell(what);
     }
 
@@ -311,7 +312,8 @@ public final class HingeFrames {
         if (!isCase(c) || !now.hasBar(b) || !isPart(what)) {
             return NONE;
         }
-        lessOne.prepareAll(now, b);
+        lessOne.prepareShape(now, b);
+        lessOne.fill();
         other.takeStrengths(lessOne.shape, now, NONE);
         other.seekCase(lessOne, now, c);
         return other.tell(what);
@@ -428,13 +430,13 @@ public final class HingeFrames {
     }
 
     private Falls wholeFalls() {
-        whole.prepareAll(history.now(), NONE);
+        whole.prepareShape(history.now(), NONE);
+        whole.fill();
         return whole;
     }
 
-    private Limit limitOf(int c) {
+    private Limit limitOf(Falls all, int c) {
         Limit limit = limits[c];
-        Falls all = wholeFalls();
         if (limit.stamp != stamp) {
             limit.stamp = stamp;
             limit.takeStrengths(all.shape, history.now(), NONE);
@@ -469,8 +471,8 @@ public final class HingeFrames {
         }
 
         static long commonDivisor(long a, long b) {
-            long m = Math.abs(a);
-            long n = Math.abs(b);
+            long m = a < 0 ? -a : a;
+            long n = b < 0 ? -b : b;
             for (int i = 0; i < 128 && n != 0; i++) {
                 long rest = m % n;
                 m = n;
@@ -850,10 +852,13 @@ public final class HingeFrames {
             }
         }
 
-        /** Each pivot END turns in its own row alone; rows stay in least whole numbers, so that none grows great. */
+        /**
+         * Each pivot END turns in its own row alone; pivots are the last ENDS that can be, the highest
+         * first. Rows stay in least whole numbers, so that none grows great.
+         */
         private void reduceRows() {
             rank = 0;
-            for (int i = 0; i < ends; i++) {
+            for (int i = ends - 1; i >= 0; i--) {
                 int found = firstRowThatTurns(i);
                 if (found == NONE) {
                     continue;
@@ -1012,6 +1017,8 @@ public final class HingeFrames {
         final int[] mask;
         /** Rows that span all TURNS that are 0 at the ENDS chosen so far: ENDS rows for each depth. */
         final long[][] span = new long[ENDS * ENDS][ENDS];
+        /** The pivot END of each of these rows: at each depth the last ENDS that can be, the lowest first. */
+        final int[] lead = new int[ENDS * ENDS];
 
         Falls(int room) {
             this.room = room;
@@ -1030,16 +1037,17 @@ public final class HingeFrames {
             shape.build(f, without);
         }
 
-        void prepareAll(Frame f, int without) {
-            prepareShape(f, without);
+        void fill() {
             if (isFilled) {
                 return;
             }
             isFilled = true;
             size = 0;
             for (int i = 0; i < shape.rank; i++) {
-                System.arraycopy(shape.row[i], 0, span[i], 0, shape.ends);
-                Whole.makeLeast(span[i], shape.ends);
+                int to = shape.rank - 1 - i;
+                System.arraycopy(shape.row[i], 0, span[to], 0, shape.ends);
+                Whole.makeLeast(span[to], shape.ends);
+                lead[to] = shape.pivot[i];
             }
             if (shape.rank > 0) {
                 descend(0, 0, 0);
@@ -1048,7 +1056,8 @@ public final class HingeFrames {
 
         /**
          * Chooses ENDS that do not turn, lowest first, until one row is left. An END that is passed
-         * by must turn in that row: so each fall is met once, by the first ENDS that make it.
+         * by must turn in that row: so each fall is met once, by the first ENDS that make it. Behind
+         * the second row's pivot there are too few pivots, and so too few ENDS, to leave one row.
          */
         private void descend(int depth, int from, int must) {
             int rows = shape.rank - depth;
@@ -1060,7 +1069,8 @@ public final class HingeFrames {
                 return;
             }
             int passed = must;
-            for (int e = from; e + rows - 1 <= shape.ends; e++) {
+            int last = lead[depth * ENDS + 1];
+            for (int e = from; e < shape.ends && e <= last; e++) {
                 int by = firstRowThatTurns(depth, rows, e);
                 if (by == NONE) {
                     continue;
@@ -1090,6 +1100,7 @@ public final class HingeFrames {
                 if (i != by) {
                     System.arraycopy(span[depth * ENDS + i], 0, span[to], 0, shape.ends);
                     Whole.clearAt(span[to], span[depth * ENDS + by], e, shape.ends);
+                    lead[to] = lead[depth * ENDS + i];
                     to++;
                 }
             }
@@ -1169,12 +1180,13 @@ public final class HingeFrames {
             seek(falls, falls.shape.takeRoll(j, x, y));
         }
 
-        private void seek(Falls falls, boolean isFast) {
+        /** Not steady: LOOSE MOVES have WORK, so the fraction is 0 and no fall is told. */
+        private void seek(Falls falls, boolean isSteady) {
             fall = NONE;
             alike = 0;
             above = 0;
-            below = isFast ? 0 : 1;
-            for (int i = 0; isFast && i < falls.size; i++) {
+            below = isSteady ? 0 : 1;
+            for (int i = 0; isSteady && i < falls.size; i++) {
                 long work = falls.workOf(i);
                 if (work != 0) {
                     weighFall(falls, i, work);
