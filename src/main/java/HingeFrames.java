@@ -313,7 +313,7 @@ public final class HingeFrames {
             return NONE;
         }
         lessOne.prepareShape(now, b);
-        lessOne.fill();
+        lessOne.gather();
         other.takeStrengths(lessOne.shape, now, NONE);
         other.seekCase(lessOne, now, c);
         return other.tell(what);
@@ -431,7 +431,7 @@ public final class HingeFrames {
 
     private Falls wholeFalls() {
         whole.prepareShape(history.now(), NONE);
-        whole.fill();
+        whole.gather();
         return whole;
     }
 
@@ -1009,7 +1009,7 @@ public final class HingeFrames {
         final Frame seen = new Frame();
         int seenWithout = NONE;
         boolean isShaped;
-        boolean isFilled;
+        boolean isGathered;
         final int room;
         int size;
         /** TURNS of the falls, ENDS numbers each, and which of them are not 0, as bits. */
@@ -1033,15 +1033,15 @@ public final class HingeFrames {
             seen.copyShape(f);
             seenWithout = without;
             isShaped = true;
-            isFilled = false;
+            isGathered = false;
             shape.build(f, without);
         }
 
-        void fill() {
-            if (isFilled) {
+        void gather() {
+            if (isGathered) {
                 return;
             }
-            isFilled = true;
+            isGathered = true;
             size = 0;
             for (int i = 0; i < shape.rank; i++) {
                 int to = shape.rank - 1 - i;
