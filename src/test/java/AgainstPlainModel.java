@@ -14,7 +14,7 @@ public final class AgainstPlainModel {
     private static int wrong = 0;
 
     public static void main(String[] args) {
-        int runs = args.length > 0 ? Integer.parseInt(args[0]) : 120;
+        int runs = args.length > 0 ? Integer.parseInt(args[0]) : 300;
         long first = args.length > 1 ? Long.parseLong(args[1]) : 1;
         long calls = 0;
         for (long seed = first; seed < first + runs && wrong < 10; seed++) {
@@ -881,6 +881,8 @@ public final class AgainstPlainModel {
         int calls = 0;
         int mostBars;
         int strongest;
+        /** All strengths are this one, so that many falls are like ones; -1: they are not. */
+        int alike;
         int[] xs;
         int[] ys;
 
@@ -889,6 +891,7 @@ public final class AgainstPlainModel {
             r = new Random(seed * 7919 + 13);
             mostBars = seed % 6 == 0 ? 7 : seed % 3 == 0 ? 6 : 3 + r.nextInt(3);
             strongest = r.nextInt(3) == 0 ? 4 : r.nextInt(2) == 0 ? 30 : 1000;
+            alike = seed % 4 == 1 ? r.nextInt(3) : -1;
             xs = lines();
             ys = lines();
         }
@@ -930,6 +933,35 @@ public final class AgainstPlainModel {
             }
         }
 
+        /** A frame that was found by search: x, y, HELD of its JOINTS, its BARS' JOINTS, its pins as bits. */
+        void buildOdd(int[][] f) {
+            for (int j = 0; j < 7; j++) {
+                addJoint(f[0][j], f[1][j], f[2][j]);
+            }
+            for (int b = 0; b < 7; b++) {
+                addBar(f[3][b], f[4][b], aStrength(), aStrength());
+            }
+            for (int e = 0; e < 14; e++) {
+                if ((f[5][0] >> e & 1) != 0) {
+                    due("pin(" + e + ", true)", h.pin(e, true) ? 1 : 0, m.pin(e, true));
+                }
+            }
+            for (int t = 0; t < 8; t++) {
+                addLoad(in(0, 5), aJoint());
+            }
+        }
+
+        /** Of great turns, of great numbers below the line, of many falls. */
+        static final int[][][] ODD = {
+            {{0, 6, 1, 6, 0, 0, 6}, {0, 0, 0, 6, 6, 1, 1}, {2, 0, 7, 4, 7, 0, 0}, {0, 3, 5, 0, 6, 2, 1}, {5, 6, 4, 4, 5, 1, 3}, {264}},
+            {{5, 6, 6, 6, 0, 0, 0}, {0, 0, 6, 1, 0, 6, 1}, {7, 5, 0, 3, 1, 0, 5}, {4, 6, 1, 5, 2, 5, 1}, {0, 3, 2, 4, 3, 6, 0}, {1366}},
+            {{6, 5, 6, 0, 6, 0, 0}, {0, 0, 6, 5, 5, 0, 6}, {7, 3, 2, 0, 0, 0, 0}, {2, 5, 0, 2, 5, 2, 6}, {4, 3, 4, 0, 1, 6, 3}, {1113}},
+            {{0, 3, 0, 3, 5, 3, 5}, {1, 1, 5, 6, 1, 5, 6}, {4, 7, 0, 2, 0, 2, 0}, {3, 3, 0, 2, 5, 4, 0}, {6, 1, 2, 5, 3, 6, 4}, {0}},
+            {{5, 6, 0, 6, 6, 5, 0}, {1, 6, 1, 1, 0, 0, 0}, {0, 5, 0, 7, 0, 6, 2}, {2, 2, 4, 4, 4, 3, 0}, {6, 0, 6, 5, 1, 0, 2}, {1680}},
+            {{6, 6, 5, 0, 0, 0, 5}, {5, 6, 0, 5, 0, 6, 5}, {7, 6, 4, 1, 0, 7, 0}, {3, 5, 2, 3, 2, 1, 0}, {0, 4, 4, 6, 6, 5, 6}, {6486}},
+            {{1, 6, 6, 0, 6, 1, 0}, {1, 6, 0, 1, 1, 0, 0}, {7, 0, 1, 7, 1, 5, 7}, {4, 2, 5, 4, 4, 3, 2}, {0, 1, 6, 3, 1, 0, 5}, {3749}},
+        };
+
         boolean isJoined(int a, int b) {
             for (int[] bar : m.now.bars) {
                 if (bar[0] == a && bar[1] == b || bar[0] == b && bar[1] == a) {
@@ -948,7 +980,7 @@ public final class AgainstPlainModel {
         }
 
         void addLoad(int c, int j) {
-            int wide = r.nextInt(3) == 0 ? 100 : 5;
+            int wide = alike >= 0 ? 1 : r.nextInt(3) == 0 ? 100 : 5;
             int x = odd() ? in(-101, 101) : in(-wide, wide);
             int y = odd() ? in(99, 102) * (1 - 2 * in(0, 1)) : in(-wide, wide);
             due("load(" + c + ", " + j + ", " + x + ", " + y + ")", h.load(c, j, x, y) ? 1 : 0, m.load(c, j, x, y));
@@ -972,7 +1004,9 @@ public final class AgainstPlainModel {
 
         long play() {
             int before = wrong;
-            if (seed % 10 != 9) {
+            if (seed % 7 == 2) {
+                buildOdd(ODD[(int) (seed / 7 % ODD.length)]);
+            } else if (seed % 10 != 9) {
                 build();
             }
             while (calls < 380 && wrong == before) {
@@ -998,7 +1032,7 @@ public final class AgainstPlainModel {
         }
 
         int aStrength() {
-            return odd() ? in(-1, 1) + 1000 * in(0, 1) : in(0, strongest);
+            return odd() ? in(-1, 1) + 1000 * in(0, 1) : alike >= 0 ? alike : in(0, strongest);
         }
 
         void step() {

@@ -34,6 +34,7 @@ public final class PromisesOneByOne {
         metal();
         undo();
         redo();
+        notTheOldShape();
         look();
         place();
         count();
@@ -274,8 +275,14 @@ public final class PromisesOneByOne {
         due(9, "the bytes behind do not count", x.sheet(3), 5);
         due(9, "redo is over", x.redo(), -1);
         x.feed(0x00010101, 0, 0, 0, 0);
-        due(9, "has 20 bytes only", x.sheet(3), -1);
+        due(9, "more than 7 then", x.sheet(3), -1);
         due(9, "the tape stays", x.count(2), 20);
+        HingeFrames y = new HingeFrames();
+        y.joint(0, 0, 0);
+        y.joint(1, 0, 0);
+        y.feed(0x00010101, 0x00010101, 0x00010101, 0x00010101, 0x00010101);
+        due(9, "20 bytes for 6 BARS", y.sheet(6), -1);
+        due(9, "20 bytes for 5 BARS", y.sheet(5), 5);
     }
 
     private static void free() {
@@ -298,6 +305,17 @@ public final class PromisesOneByOne {
         due(10, "LOOSE by pins", x.free(1), 2);
         due(10, "TURNS", x.free(2), 2);
         due(10, "FREE", x.free(0), 2);
+        HingeFrames y = new HingeFrames();
+        for (int j = 0; j < 7; j++) {
+            y.joint(j, j, 0);
+        }
+        due(10, "seven free JOINTS", y.free(1), 21);
+        due(10, "no TURNS", y.free(2), 0);
+        for (int c = 0; c < 6; c++) {
+            y.load(c, 6, c == 0 ? 0 : 1, 0);
+        }
+        due(10, "no LOAD at seven free JOINTS", y.greatest(0, 0), -2);
+        due(10, "a LOAD at the last one", y.greatest(5, 0), 0);
     }
 
     private static void falls() {
@@ -317,6 +335,11 @@ public final class PromisesOneByOne {
         due(11, "LOOSE MOVES have WORK", x.falls(1), -1);
         due(11, "LOOSE MOVES have none", x.falls(0), 1);
         due(11, "all", x.falls(-1), 4);
+        HingeFrames y = new HingeFrames();
+        y.joint(0, 0, 7);
+        y.joint(2, 0, 3);
+        y.bar(0, 1, 1, 1);
+        due(11, "a single one and it turned round", y.falls(-1), 2);
     }
 
     private static void greatest() {
@@ -372,6 +395,7 @@ public final class PromisesOneByOne {
      * By v1, t1, v2, t2: -v1, t1 - v1, t1 - v2 + v1, t2 - v2 + v1.
      */
     private static void fewestEnds() {
+        manyAlike();
         HingeFrames x = new HingeFrames();
         x.joint(0, 0, 7);
         x.joint(1, 0, 0);
@@ -388,6 +412,39 @@ public final class PromisesOneByOne {
         due(13, "the one of no strength", x.fall(0, 2), -1);
         due(13, "the one of no strength", x.fall(0, 0), 0);
         due(13, "ONLY", x.only(0), 1);
+    }
+
+    /**
+     * The cantilever's falls where several have one fraction: P and Q of BAR 0 twice those of BAR 1,
+     * so that END 0 alone (v2 by 2, BEARS 2) is like ENDS 1 and 2 (v2 by 1, BEARS 2 and 1: not so).
+     */
+    private static void manyAlike() {
+        HingeFrames x = new HingeFrames();
+        x.joint(0, 0, 7);
+        x.joint(1, 0, 0);
+        x.joint(2, 0, 0);
+        x.bar(0, 1, 2, 2);
+        x.bar(1, 2, 1, 1);
+        x.load(0, 2, 0, 1);
+        fraction(12, "of END 0 and of END 2", x.greatest(0, 0), x.greatest(0, 1), 1, 1);
+        due(13, "the least set", x.fall(0, 0), -1);
+        due(13, "the least set", x.fall(0, 2), 0);
+        due(14, "two like ones", x.only(0), 0);
+        // two frames in one: JOINT 1 does not turn, so ENDS 0 and 1 turn alike; END 2 can turn alone
+        HingeFrames y = new HingeFrames();
+        y.joint(0, 0, 7);
+        y.joint(1, 0, 4);
+        y.joint(3, 0, 7);
+        y.joint(4, 0, 0);
+        y.bar(0, 1, 0, 0);
+        y.bar(2, 3, 0, 0);
+        y.load(0, 1, 0, 1);
+        due(13, "both ENDS", y.fall(0, 0), -1);
+        due(13, "both ENDS", y.fall(0, 1), -1);
+        y.load(0, 3, 0, 1);
+        due(13, "fewer ENDS, of a greater set", y.fall(0, 2), -1);
+        due(13, "fewer ENDS, of a greater set", y.fall(0, 1), 0);
+        due(14, "several like ones", y.only(0), 0);
     }
 
     private static void only() {
@@ -497,6 +554,7 @@ public final class PromisesOneByOne {
         due(17, "great ones", x.turning(0), 0);
         x.feed(6668, 10002, 0, -3334, 0);
         due(17, "too great ones", x.turning(0), 1);
+        edgesOfTurns();
         x.feed(2, 3, 0, -1, 0);
         due(17, "no LOADS", x.turning(1), 2);
         x.pin(1, true);
@@ -511,6 +569,24 @@ public final class PromisesOneByOne {
         due(17, "LOOSE MOVES have WORK", x.turning(0), 2);
         x.feed(2, 0, 0, 1, 0);
         due(17, "and they can't be", x.turning(0), 1);
+    }
+
+    /** A cantilever of LENGTH 1: both ENDS turn as they like, v is END 0's turned round. */
+    private static void edgesOfTurns() {
+        HingeFrames x = new HingeFrames();
+        x.joint(0, 0, 7);
+        x.joint(1, 0, 0);
+        x.bar(0, 1, 3, 4);
+        x.load(0, 1, 0, -1);
+        int[][] told = {{1, 0, 0}, {10000, -10000, 0}, {10000, 10000, 0}, {10001, 0, 1}, {0, 10001, 1}, {5, -10001, 1}, {MIN, 0, 1},
+            {0, MAX, 1}, {-10000, 10000, 2}, {-10001, 0, 1}};
+        for (int[] t : told) {
+            x.feed(t[0], t[1], 0, 0, 0);
+            due(17, "turns " + t[0] + ", " + t[1], x.turning(0), t[2]);
+        }
+        x.feed(1, 0, 0, 0, 0);
+        x.turning(0);
+        fraction(18, "BOUND", x.bound(0), x.bound(1), 3, 1);
     }
 
     private static void bound() {
@@ -662,6 +738,14 @@ public final class PromisesOneByOne {
         empty.list(2);
         due(22, "no BARS", empty.metal(63, -1), 0);
         due(22, "no BARS", empty.metal(63, 0), 7);
+        HingeFrames one = new HingeFrames();
+        one.joint(0, 0, 7);
+        one.joint(1, 0, 0);
+        one.bar(0, 1, 0, 0);
+        one.load(0, 1, 0, 1);
+        one.feed(0, 1, 2, 0, 0);
+        one.list(3);
+        due(22, "WORK of 1", one.metal(1, 0), 1);
     }
 
     private static void undo() {
@@ -735,6 +819,54 @@ public final class PromisesOneByOne {
         due(24, "a SHEET is one", x.redo(), 0);
         due(24, "all of it", x.count(1), 4);
         due(24, "its strength", x.look(3, 2), 8);
+    }
+
+    /** Frames that differ by one thing from one that was asked about just before. */
+    private static void notTheOldShape() {
+        int[][][] last = {
+            {{2, 0, 0}, {3, 0, 0}}, {{2, 0, 0}, {2, 0, 4}}, {{0, 2, 0}, {0, 3, 0}}, {{2, 0, 0}, {2, 0, 1}}, {{2, 0, 3}, {2, 0, 7}}};
+        for (int[][] pair : last) {
+            HingeFrames x = new HingeFrames();
+            x.joint(0, 0, 7);
+            x.joint(pair[0][0], pair[0][1], pair[0][2]);
+            x.bar(0, 1, 5, 5);
+            x.load(0, 1, 1, 1);
+            x.greatest(0, 0);
+            for (int i = 0; i < 3; i++) {
+                x.undo();
+            }
+            x.joint(pair[1][0], pair[1][1], pair[1][2]);
+            x.bar(0, 1, 5, 5);
+            x.load(0, 1, 1, 1);
+            HingeFrames y = new HingeFrames();
+            y.joint(0, 0, 7);
+            y.joint(pair[1][0], pair[1][1], pair[1][2]);
+            y.bar(0, 1, 5, 5);
+            y.load(0, 1, 1, 1);
+            for (int what = 0; what < 3; what++) {
+                due(23, "free(" + what + ") of another JOINT", x.free(what), y.free(what));
+            }
+            fraction(23, "another JOINT", x.greatest(0, 0), x.greatest(0, 1), y.greatest(0, 0), y.greatest(0, 1));
+        }
+        HingeFrames x = beam();
+        x.joint(2, 5, 0);
+        x.bar(1, 3, 4, 4);
+        x.load(1, 3, 1, 0);
+        // a mast of LENGTH 5 on the beam
+        due(23, "the mast's JOINT is not LOOSE", x.free(1), 0);
+        x.undo();
+        x.undo();
+        x.bar(0, 1, 4, 4);
+        due(23, "another BAR", x.free(1), 3);
+        x.undo();
+        x.bar(0, 2, 4, 4);
+        due(23, "with another second JOINT", x.free(0), 4);
+        fraction(23, "with another second JOINT", x.greatest(0, 0), x.greatest(0, 1), 20, 3);
+        x.undo();
+        x.bar(1, 2, 4, 4);
+        due(23, "with another first JOINT", x.free(0), 4);
+        // (2, 3, 0, -1, 0, -1) BEARS 84
+        fraction(23, "with another first JOINT", x.greatest(0, 0), x.greatest(0, 1), 7, 1);
     }
 
     private static void look() {
