@@ -848,6 +848,22 @@ public final class PromisesOneByOne {
             }
             fraction(23, "another JOINT", x.greatest(0, 0), x.greatest(0, 1), y.greatest(0, 0), y.greatest(0, 1));
         }
+        HingeFrames first = new HingeFrames();
+        first.joint(0, 0, 0);
+        due(23, "the first JOINT", first.free(1), 3);
+        first.undo();
+        first.joint(0, 0, 7);
+        due(23, "another first JOINT", first.free(1), 0);
+        first.joint(1, 0, 0);
+        first.joint(2, 0, 0);
+        first.bar(0, 1, 1, 1);
+        due(23, "the first BAR", first.free(1), 3);
+        first.undo();
+        first.bar(1, 2, 1, 1);
+        due(23, "another first BAR", first.free(1), 3);
+        due(23, "another first BAR", first.free(2), 2);
+        first.load(0, 1, 0, 1);
+        due(23, "which is not held", first.greatest(0, 0), 0);
         HingeFrames x = beam();
         x.joint(2, 5, 0);
         x.bar(1, 3, 4, 4);
