@@ -16,10 +16,15 @@ public final class StaysInTheRoom {
     public static void main(String[] args) throws IllegalAccessException {
         HingeFrames x = greatFrame();
         play(x);
+        HingeFrames[] frames = new HingeFrames[10];
+        for (int i = 0; i < frames.length; i++) {
+            frames[i] = greatFrame();
+        }
         com.sun.management.ThreadMXBean bean = (com.sun.management.ThreadMXBean) ManagementFactory.getThreadMXBean();
         long before = bean.getCurrentThreadAllocatedBytes();
-        for (int i = 0; i < 20; i++) {
-            play(x);
+        for (HingeFrames f : frames) {
+            play(f);
+            play(f);
         }
         long made = bean.getCurrentThreadAllocatedBytes() - before;
         Map<Object, Object> seen = new IdentityHashMap<>();
