@@ -21,15 +21,23 @@ public final class EdgesOfTerms {
         works();
         greatest();
         theFall();
+        fewestEnds();
+        greatFrame();
+        workInParts();
         bends();
+        numbersAtPins();
+        withinAtEachEnd();
         turns();
         rolling();
         out();
         groupsAndList();
         metal();
+        metalOfThreeGroups();
         sheets();
         undo();
         redo();
+        asksBetweenUndoAndRedo();
+        asksBehindUndoOfAll();
         ownMemory();
         manyCalls();
         System.out.println(checks + " checks, " + wrong + " wrong");
@@ -462,6 +470,17 @@ public final class EdgesOfTerms {
         due("7 and -7 along x", both.greatest(0, 0), -2);
         both.load(0, 1, -6, 0);
         greatestDue("7 and -6 along x", both, 0, 0, 1);
+        // JOINT 1 does not turn, so both ENDS turn alike: one PLAIN FALL and it turned round, and both have WORK of a LOAD
+        HingeFrames single = new HingeFrames();
+        single.joint(0, 0, 7);
+        single.joint(1, 0, 4);
+        single.bar(0, 1, 3, 3);
+        single.load(0, 1, 0, 5);
+        due("all PLAIN FALLS have WORK, one above 0", single.falls(0), 1);
+        greatestDue("both ENDS bear", single, 0, 6, 5);
+        single.feed(1, 2, 3, 4, 0);
+        single.list(4);
+        due("metal: 2 s against 5", single.metal(1, 0), 3);
         says("BEARS of a FALL: of all ENDS that are not PINNED THE TURN times P, or, below 0, without its sign times Q, together.");
         HingeFrames y = beam(2, 6, 0, 0);
         // (2, 3, 0, -1): 2 P, 3 P of BAR 0, 1 Q of BAR 1, WORK 4; (2, 0, -3, -1): 2 P of BAR 0, 4 Q of BAR 1
@@ -586,6 +605,177 @@ public final class EdgesOfTerms {
         x.strength(1, 6, 5);
         fallDue("0 and 7 bear less", x, 0, 1, 0, 0, 0, 0, 0, 0, -1);
         due("ONLY", x.only(0), 1);
+    }
+
+    /**
+     * One BAR to a JOINT that does not turn (both its ENDS turn alike), one to a JOINT that does (its
+     * held END turns alone), in either order and told from either JOINT: the END that turns alone is THE FALL.
+     */
+    private static void fewestEnds() {
+        says("of like ones that with fewest ENDS that turn;");
+        for (int way = 0; way < 8; way++) {
+            HingeFrames x = new HingeFrames();
+            x.joint(0, 0, 7);
+            x.joint(1, 0, 4);
+            x.joint(3, 0, 7);
+            x.joint(4, 0, 0);
+            int alone = 0;
+            for (int b = 0; b < 2; b++) {
+                int near = (b == 0) == ((way & 1) == 0) ? 0 : 2;
+                boolean isTurned = (way >> 1 + b & 1) != 0;
+                x.bar(isTurned ? near + 1 : near, isTurned ? near : near + 1, 0, 0);
+                alone = near == 2 ? 2 * b + (isTurned ? 1 : 0) : alone;
+            }
+            x.load(0, 1, 0, 1);
+            x.load(0, 3, 0, 1);
+            for (int e = 0; e < 4; e++) {
+                due("END " + e + " of frame " + way, x.fall(0, e), e == alone ? -1 : 0);
+            }
+            due("not ONLY", x.only(0), 0);
+        }
+        // both ENDS of BAR 0 alike, three ENDS of two BARS side by side: the fewer ones come first or last
+        for (int way = 0; way < 2; way++) {
+            HingeFrames x = new HingeFrames();
+            x.joint(0, 0, 7);
+            x.joint(1, 0, 4);
+            x.joint(3, 0, 7);
+            x.joint(4, 0, 4);
+            for (int b = 0; b < 3; b++) {
+                boolean isSingle = b == (way == 0 ? 0 : 2);
+                x.bar(isSingle ? 0 : 2, isSingle ? 1 : 3, 0, 0);
+            }
+            x.pin(way == 0 ? 5 : 0, true);
+            x.load(0, 1, 0, 1);
+            x.load(0, 3, 0, 1);
+            for (int e = 0; e < 6; e++) {
+                due("two ENDS before three, END " + e, x.fall(0, e), e / 2 == (way == 0 ? 0 : 2) ? -1 : 0);
+            }
+        }
+    }
+
+    /** Seven BARS with 594 PLAIN FALLS and those turned round: THE FALL of each LOAD has no common divisor. */
+    private static void greatFrame() {
+        says("It is told in whole numbers without a common divisor;");
+        int[][] joints = {{0, 1, 4}, {3, 1, 7}, {0, 5, 0}, {3, 6, 2}, {5, 1, 0}, {3, 5, 2}, {5, 6, 0}};
+        int[][] bars = {{3, 6}, {3, 1}, {0, 2}, {2, 5}, {5, 3}, {4, 6}, {0, 4}};
+        HingeFrames x = new HingeFrames();
+        for (int[] j : joints) {
+            x.joint(j[0], j[1], j[2]);
+        }
+        for (int[] b : bars) {
+            x.bar(b[0], b[1], 10 + 7 * b[0], 12 + 5 * b[1]);
+        }
+        due("all PLAIN FALLS", x.falls(-1), 1188);
+        for (int i = 0; i < 24; i++) {
+            x.load(0, i % 7, 10 - i % 5, i - 8);
+            long divisor = 0;
+            for (int e = 0; e < 14; e++) {
+                divisor = commonDivisor(divisor, x.fall(0, e));
+            }
+            due("the divisor of THE FALL of LOAD " + i, divisor, 1);
+            due("the divisor of THE GREATEST of LOAD " + i, commonDivisor(x.greatest(0, 0), x.greatest(0, 1)), 1);
+        }
+    }
+
+    private static long commonDivisor(long a, long b) {
+        return b == 0 ? Math.abs(a) : commonDivisor(b, a % b);
+    }
+
+    /**
+     * LENGTHS 2 and 3 with the outer ENDS PINNED: END 1 or END 2 turns alone by 1 if v is -6 / 5 or
+     * 6 / 5 at JOINT 1, so that the WORK of whole TURNS is no whole number.
+     */
+    private static void workInParts() {
+        says("THE GREATEST of a CASE: of all FALLS with WORK above 0 the least BEARS through WORK: a fraction without a common divisor;");
+        HingeFrames x = beam(2, 5, 7, 9);
+        x.pin(0, true);
+        x.pin(3, true);
+        greatestDue("7 through 6 / 5", x, 0, 35, 6);
+        fallDue("END 1", x, 0, 0, 1, 0, 0);
+        int[][] loads = {{-5, 7, 6}, {-7, 5, 6}, {-35, 1, 6}, {-100, 7, 120}, {1, 35, 6}, {10, 7, 12}};
+        for (int[] l : loads) {
+            x.load(0, 1, 0, l[0]);
+            greatestDue("a LOAD of " + l[0], x, 0, l[1], l[2]);
+        }
+        // END 1 by -1 bears 9, END 2 by 1 bears 7
+        fallDue("upwards END 2", x, 0, 0, 0, 1, 0);
+        x.feed(0, -1, 0, 0, 0);
+        due("upwards END 1", x.turning(0), 0);
+        due("9 through 12, above", x.bound(0), 3);
+        due("9 through 12, below", x.bound(1), 4);
+        x.feed(0, -10000, 10000, 0, 0);
+        due("both", x.turning(0), 0);
+        due("16 through 24, above", x.bound(0), 2);
+        due("16 through 24, below", x.bound(1), 3);
+        x.load(0, 1, 0, -1);
+        x.feed(0, 6, -6, 0, 0);
+        due("bends of 6", x.bends(0, 5, 1), 0);
+        x.feed(0, 7, -7, 0, 0);
+        due("bends of 7", x.bends(0, 35, 6), 0);
+        x.feed(0, 8, -8, 0, 0);
+        due("bends of 8", x.bends(0, 20, 3), 2);
+        due("one more of BAR 0", x.worth(0, 0, 0), 20);
+        due("one more of BAR 0", x.worth(0, 0, 1), 3);
+        x.feed(5, 6, 7, 8, 9);
+        x.list(5);
+        x.load(0, 1, 0, -5);
+        due("metal: 5 s / 6 against 5", x.metal(1, 0), 6);
+        x.load(0, 1, 0, -6);
+        due("metal: 5 s / 6 against 6", x.metal(1, 0), 8);
+    }
+
+    /** A whole row of seven BARS, each of its ENDS PINNED in its turn: what is told there must be 0. */
+    private static void numbersAtPins() {
+        for (int e = 0; e < 14; e++) {
+            HingeFrames x = new HingeFrames();
+            for (int j = 0; j < 7; j++) {
+                x.joint(j, 0, j == 0 ? 7 : 0);
+            }
+            for (int b = 0; b < 7; b++) {
+                x.bar(b < 6 ? b : 5, b < 6 ? b + 1 : 6, 9, 9);
+            }
+            x.pin(e, true);
+            int[] told = {1, -1, MIN, 256, 65536, 1 << 24};
+            for (int t : told) {
+                says("at those that are PINNED 0, else they don't)");
+                feedOne(x, e, t);
+                due(t + " at END " + e, x.bends(0, 0, 1), 1);
+                says("PINNED: 0)");
+                feedOne(x, e, t);
+                due(t + " at END " + e, x.turning(0), 1);
+            }
+            feedOne(x, e, 0);
+            due("0 at END " + e, x.bends(0, 0, 1), 0);
+            feedOne(x, e, 0);
+            due("0 at END " + e, x.turning(0), 2);
+        }
+    }
+
+    /** 15 numbers, all 0 but for that of one END. */
+    private static void feedOne(HingeFrames x, int e, int t) {
+        for (int i = 0; i < 15; i += 5) {
+            x.feed(e == i ? t : 0, e == i + 1 ? t : 0, e == i + 2 ? t : 0, e == i + 3 ? t : 0, e == i + 4 ? t : 0);
+        }
+    }
+
+    /** Where all is HELD any bends BALANCE no LOADS; each BAR has a strength of its own. */
+    private static void withinAtEachEnd() {
+        says("They are WITHIN strength, if none is above P, nor below Q with its sign turned.");
+        for (int e = 0; e < 14; e++) {
+            HingeFrames x = new HingeFrames();
+            x.joint(0, 0, 7);
+            x.joint(6, 0, 7);
+            for (int b = 0; b < 7; b++) {
+                x.bar(b % 2, 1 - b % 2, 100 - 9 * b, 200 - 11 * b);
+            }
+            int p = 100 - 9 * (e / 2);
+            int q = 200 - 11 * (e / 2);
+            int[][] told = {{p, 0}, {p + 1, 2}, {-q, 0}, {-q - 1, 2}, {MAX, 2}, {MIN, 2}, {MIN + 1, 2}};
+            for (int[] t : told) {
+                feedOne(x, e, t[0]);
+                due(t[0] + " at END " + e, x.bends(0, 1, 1), t[1]);
+            }
+        }
     }
 
     private static void bends() {
@@ -855,6 +1045,40 @@ public final class EdgesOfTerms {
         due("GROUP 0 has no BARS now", x.metal(1, 0), 1);
     }
 
+    /** Three arms of LENGTH 1, one of each GROUP: each needs its own LOAD. */
+    private static void metalOfThreeGroups() {
+        says("THE LEAST METAL for some CASES: a strength of the LIST for each GROUP that has BARS");
+        int[][] loads = {{1, 1, 1}, {3, 5, 6}, {6, 5, 3}, {6, 6, 6}, {1, 6, 1}, {6, 1, 6}, {2, 0, 6}, {0, 0, 0}};
+        for (int[] l : loads) {
+            HingeFrames x = threeArms(l);
+            int sum = 0;
+            for (int g = 0; g < 3; g++) {
+                due("GROUP " + g, x.metal(1, g), Math.max(1, l[g]));
+                sum += Math.max(1, l[g]);
+            }
+            due("cost", x.metal(1, -1), sum);
+        }
+        int[][] heavy = {{7, 1, 1}, {1, 7, 1}, {1, 1, 7}};
+        for (int[] l : heavy) {
+            due("one that is too heavy", threeArms(l).metal(1, -1), -2);
+        }
+    }
+
+    private static HingeFrames threeArms(int[] loads) {
+        HingeFrames x = new HingeFrames();
+        for (int g = 0; g < 3; g++) {
+            x.joint(0, 2 * g, 7);
+            x.joint(1, 2 * g, 0);
+            x.bar(2 * g, 2 * g + 1, 9, 9);
+            x.group(g, g);
+            x.load(0, 2 * g + 1, 0, loads[g]);
+        }
+        x.feed(1, 2, 3, 4, 5);
+        x.feed(6, 0, 0, 0, 0);
+        x.list(6);
+        return x;
+    }
+
     private static void sheets() {
         says("A SHEET: by fours of bytes: two JOINTS, P, Q (0 to 255): BARS one behind the other;");
         HingeFrames x = beam(2, 6, 1, 1);
@@ -1028,6 +1252,69 @@ public final class EdgesOfTerms {
             due("count(3)", x.count(3), Math.min(acts, 55));
             due("count(4)", x.count(4), 5);
         }
+    }
+
+    /** Acts, UNDO, REDO and new LISTS in a fixed but mixed order, and questions behind each of them. */
+    private static void asksBetweenUndoAndRedo() {
+        says("REDO: done again, as long as no other act came.");
+        for (int start = 1; start <= 6; start++) {
+            HingeFrames x = arm(1, 100, 100);
+            int[] loads = new int[100];
+            int at = 0;
+            int last = 0;
+            int least = 0;
+            int chance = start;
+            for (int i = 0; i < 60; i++) {
+                chance = (chance * 1103515245 + 12345) & MAX;
+                int kind = chance >> 16 & 7;
+                if (kind < 2 && at > 0) {
+                    x.undo();
+                    at--;
+                } else if (kind < 4 && at < last) {
+                    x.redo();
+                    at++;
+                } else if (kind == 4) {
+                    least = i + 20;
+                    x.feed(least, 101, 0, 0, 0);
+                    x.list(2);
+                } else {
+                    at++;
+                    last = at;
+                    loads[at] = 1 + i;
+                    x.load(0, 1, 0, loads[at]);
+                }
+                long y = loads[at];
+                due("greatest at step " + i, x.greatest(0, 0), y == 0 ? -2 : 100 / commonDivisor(100, y));
+                due("worth at step " + i, x.worth(0, 0, 0), y == 0 ? -2 : 101);
+                due("out at step " + i, x.out(0, 0, 0), y == 0 ? -2 : 0);
+                due("falls at step " + i, x.falls(0), y == 0 ? 0 : 1);
+                due("metal at step " + i, x.metal(1, 0), least == 0 ? -1 : y <= least ? least : 101);
+            }
+        }
+    }
+
+    private static void asksBehindUndoOfAll() {
+        says("are undone, the last one first");
+        HingeFrames x = beam(2, 6, 5, 5);
+        x.feed(5, 6, 0, 0, 0);
+        x.list(2);
+        greatestDue("the beam", x, 0, 15, 2);
+        due("its OUT", x.out(0, 0, 0), 5);
+        for (int i = 0; i < 6; i++) {
+            x.undo();
+        }
+        due("FREE", x.free(0), 0);
+        due("LOOSE", x.free(1), 0);
+        due("TURNS", x.free(2), 0);
+        due("falls(-1)", x.falls(-1), 0);
+        due("falls(0)", x.falls(0), 0);
+        due("greatest(0, 0)", x.greatest(0, 0), -2);
+        due("fall(0, 0)", x.fall(0, 0), NO_TURN);
+        due("metal(1, -1)", x.metal(1, -1), 0);
+        due("rolls(0, -1, 1)", x.rolls(0, -1, 1), -1);
+        due("bends of no ENDS", x.bends(0, 1, 1), 0);
+        x.joint(3, 3, 0);
+        due("another JOINT's LOOSE MOVES", x.free(1), 3);
     }
 
     private static void ownMemory() {
