@@ -453,6 +453,18 @@ public final class EdgesOfPromises {
             due("Q of BAR " + b, z.look(b, 3), 2 * b + 2);
         }
         due("first JOINT of BAR 5", z.look(5, 0), 1);
+        HingeFrames kept = beam();
+        kept.feed(0x00010102, 0x00020304, 0, 0, 0);
+        kept.load(1, 1, 5, 5);
+        kept.undo();
+        kept.redo();
+        kept.pin(0, true);
+        kept.greatest(0, 0);
+        kept.out(0, 0, 0);
+        kept.metal(1, -1);
+        due("acts and questions leave the tape", kept.count(2), 20);
+        due("acts and questions leave the tape", kept.sheet(2), 4);
+        due("P of BAR 3", kept.look(3, 2), 3);
         says(8, "the highest of each int first");
         HingeFrames w = row(2);
         w.feed(0x0100ff80, 0x00017fff, 0, 0, 0);
@@ -1028,6 +1040,13 @@ public final class EdgesOfPromises {
         y.feed(0, 0, 0, 0, 0);
         y.feed(7, 0, 6, 0, 0);
         due("END 10 with not so much of END 12", y.turning(5), 1);
+        HingeFrames undone = beam();
+        undone.load(1, 1, 1, 1);
+        undone.undo();
+        undone.feed(2, 3, 0, -1, 0);
+        due("no act", undone.turning(0), 0);
+        due("count(3)", undone.count(3), 6);
+        due("REDO is left", undone.redo(), 0);
         says(17, "BOUND is kept.");
         fraction("BOUND", y.bound(0), y.bound(1), 24, 1);
         says(17, "NONE: no such CASE");

@@ -16,6 +16,7 @@ public final class EdgesOfTerms {
         moves();
         leans();
         plainFalls();
+        leastTurns();
         looseAndFree();
         cases();
         works();
@@ -202,6 +203,15 @@ public final class EdgesOfTerms {
         due("no FALL is told", pinned.fall(0, 0), NO_TURN);
         pinned.pin(1, false);
         greatestDue("at the held JOINT", pinned, 0, 0, 1);
+        HingeFrames again = arm(1, 4, 5);
+        again.pin(0, true);
+        again.pin(1, true);
+        for (int i = 0; i < 3; i++) {
+            again.undo();
+        }
+        again.bar(0, 1, 6, 7);
+        due("not at a BAR where another one was", again.look(0, 6) + again.look(0, 7), 0);
+        due("TURNS of both its ENDS", again.free(2), 2);
         HingeFrames beam = beam(3, 6, 6, 6);
         greatestDue("of a beam none", beam, 0, 8, 1);
         beam.pin(0, true);
@@ -347,6 +357,41 @@ public final class EdgesOfTerms {
         }
         // one for each JOINT: all ENDS there turn alike
         due("one for each of seven JOINTS", apart.falls(-1), 14);
+    }
+
+    /** Two BARS of all LENGTHS to one JOINT that goes up and down alone: v through each LENGTH, in least numbers. */
+    private static void leastTurns() {
+        says("It is told in whole numbers without a common divisor;");
+        for (int one = 1; one <= 6; one++) {
+            for (int two = 1; two <= 6; two++) {
+                if (one == two) {
+                    continue;
+                }
+                HingeFrames x = new HingeFrames();
+                x.joint(6, 0, 5);
+                x.joint(6 - one, 0, 7);
+                x.joint(6 - two, 0, 7);
+                x.bar(0, 1, 5, 5);
+                x.bar(2, 0, 5, 5);
+                x.load(0, 0, 0, 1);
+                long g = commonDivisor(one, two);
+                fallDue("LENGTHS " + one + " and " + two, x, 0, -two / g, -two / g, -one / g, -one / g);
+                x.pin(3, true);
+                fallDue("LENGTHS " + one + " and " + two + " with END 3 PINNED", x, 0, -two / g, -two / g, -one / g, 0);
+            }
+        }
+        // JOINT 1 does not turn; v = -1 of it alone BEARS 2 + 2 + 8 + 8, all others bear more
+        HingeFrames y = new HingeFrames();
+        y.joint(0, 0, 7);
+        y.joint(1, 0, 4);
+        y.joint(2, 0, 0);
+        y.bar(2, 0, 7, 4);
+        y.bar(1, 2, 8, 2);
+        y.bar(0, 1, 8, 5);
+        y.load(0, 1, 0, -1);
+        greatestDue("JOINT 1 goes down alone", y, 0, 20, 1);
+        fallDue("JOINT 1 goes down alone", y, 0, 0, 0, -1, -1, 1, 1);
+        due("ONLY", y.only(0), 1);
     }
 
     private static void looseAndFree() {
@@ -1032,6 +1077,14 @@ public final class EdgesOfTerms {
         due("GROUP 0", x.metal(4, 0), 4);
         due("GROUP 1", x.metal(4, 1), 2);
         due("GROUP 2", x.metal(4, 2), 1);
+        HingeFrames idle = withList(arm(3, 9, 9), 7, 8, 9, 10, 11);
+        idle.bar(0, 1, 9, 9);
+        idle.group(1, 1);
+        idle.pin(2, true);
+        idle.pin(3, true);
+        idle.load(0, 1, 0, 3);
+        due("a BAR that is PINNED costs, too", idle.metal(1, -1), 3 * 9 + 3 * 7);
+        due("its GROUP", idle.metal(1, 1), 7);
         says("of like ones the least row of strengths (GROUP 0 first).");
         // against 12: (2, 2) costs 12, (4, 1) 12, too
         due("cost", x.metal(1, -1), 12);
@@ -1254,17 +1307,17 @@ public final class EdgesOfTerms {
         }
     }
 
-    /** Acts, UNDO, REDO and new LISTS in a fixed but mixed order, and questions behind each of them. */
+    /** Acts, UNDO, REDO and new LISTS in a fixed but mixed order, and questions behind some of them. */
     private static void asksBetweenUndoAndRedo() {
         says("REDO: done again, as long as no other act came.");
-        for (int start = 1; start <= 6; start++) {
+        for (int start = 1; start <= 60; start++) {
             HingeFrames x = arm(1, 100, 100);
-            int[] loads = new int[100];
+            int[] loads = new int[60];
             int at = 0;
             int last = 0;
             int least = 0;
             int chance = start;
-            for (int i = 0; i < 60; i++) {
+            for (int i = 0; i < 56; i++) {
                 chance = (chance * 1103515245 + 12345) & MAX;
                 int kind = chance >> 16 & 7;
                 if (kind < 2 && at > 0) {
@@ -1283,14 +1336,36 @@ public final class EdgesOfTerms {
                     loads[at] = 1 + i;
                     x.load(0, 1, 0, loads[at]);
                 }
-                long y = loads[at];
-                due("greatest at step " + i, x.greatest(0, 0), y == 0 ? -2 : 100 / commonDivisor(100, y));
-                due("worth at step " + i, x.worth(0, 0, 0), y == 0 ? -2 : 101);
-                due("out at step " + i, x.out(0, 0, 0), y == 0 ? -2 : 0);
-                due("falls at step " + i, x.falls(0), y == 0 ? 0 : 1);
-                due("metal at step " + i, x.metal(1, 0), least == 0 ? -1 : y <= least ? least : 101);
+                if ((chance >> 20 & 3) <= start % 3) {
+                    ask(x, i, loads[at], least);
+                }
             }
         }
+        HingeFrames x = arm(1, 100, 100);
+        x.load(0, 1, 0, 1);
+        x.load(0, 1, 0, 2);
+        x.undo();
+        x.undo();
+        ask(x, 0, 0, 0);
+        x.redo();
+        x.load(0, 1, 0, 4);
+        ask(x, 1, 4, 0);
+        x.feed(7, 101, 0, 0, 0);
+        x.list(2);
+        ask(x, 2, 4, 7);
+        x.load(0, 1, 0, 5);
+        x.feed(9, 101, 0, 0, 0);
+        x.list(2);
+        ask(x, 3, 5, 9);
+    }
+
+    /** The arm bears 100 through its LOAD; the LIST has that least strength (0: there is no LIST) and 101. */
+    private static void ask(HingeFrames x, int step, long y, long least) {
+        due("greatest at step " + step, x.greatest(0, 0), y == 0 ? -2 : 100 / commonDivisor(100, y));
+        due("worth at step " + step, x.worth(0, 0, 0), y == 0 ? -2 : 101);
+        due("out at step " + step, x.out(0, 0, 0), y == 0 ? -2 : 0);
+        due("falls at step " + step, x.falls(0), y == 0 ? 0 : 1);
+        due("metal at step " + step, x.metal(1, 0), least == 0 ? -1 : y <= least ? least : 101);
     }
 
     private static void asksBehindUndoOfAll() {
